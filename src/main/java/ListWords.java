@@ -138,9 +138,9 @@ public final class ListWords {
         if (first == '{') {
             behind = behindCloser(readBraced(from + 1));
         } else if (first == '"') {
-            behind = behindCloser(readQuoted(from + 1));
+            behind = behindCloser(readUnbraced(from + 1, true));
         } else {
-            behind = readBare(from);
+            behind = readUnbraced(from, false);
         }
         if (behind == BAD) {
             return BAD;
@@ -180,30 +180,17 @@ public final class ListWords {
         return BAD;
     }
 
-    /** Reads up to the next quote: where it stands; BAD. */
-    private int readQuoted(int from) {
+    /** Reads up to the next quote, or else to the next space or the end: where it stands; BAD. */
+    private int readUnbraced(int from, boolean quoted) {
         for (int i = from; i < list.size(); i++) {
             int b = list.byteAt(i);
-            if (b == '"') {
+            if (quoted ? b == '"' : isSpace(b)) {
                 return i;
             }
             word.put(b == '\\' ? meaningOfBackslash(i) : b);
             i += bytesBehindBackslash(i);
         }
-        return BAD;
-    }
-
-    /** Reads up to the next space, or the end: where it stands. */
-    private int readBare(int from) {
-        for (int i = from; i < list.size(); i++) {
-            int b = list.byteAt(i);
-            if (isSpace(b)) {
-                return i;
-            }
-            word.put(b == '\\' ? meaningOfBackslash(i) : b);
-            i += bytesBehindBackslash(i);
-        }
-        return list.size();
+        return quoted ? BAD : list.size();
     }
 
     /** The place behind a closing brace or quote, where only a space or the end may be; BAD. */

@@ -35,6 +35,7 @@ public final class ReadTest {
         Check.reads("{a\\\\}", "a\\\\");
         Check.reads("{\\n\\x41\\101\\\n  b}", "\\n\\x41\\101\\\n  b");
         Check.isBad("{");
+        Check.isBad(" {a b");
         Check.isBad("{{}");
         Check.isBad("{a\\}");
         Check.isBad("{a\\");
@@ -55,6 +56,7 @@ public final class ReadTest {
         Check.reads("\"a\\\\\" b", "a\\", "b");
         Check.reads("\"\\x\" \"\\x4\" \"\\7\"", "x", "\u0004", "\u0007");
         Check.isBad("\"");
+        Check.isBad(" \"a b");
         Check.isBad("\"a");
         Check.isBad("\"a\\\"");
         Check.isBad("\"a\\");
@@ -91,6 +93,8 @@ public final class ReadTest {
         Check.reads("\\x4g \\xg \\x", "\u0004g", "xg", "x");
         Check.reads("\\x20\\x7B\\xfF\\x0\\xaBc", " {\u00ff\u0000\u00abc");
         Check.reads("\\x:\\x@\\xG\\x`\\x/", "x:x@xGx`x/");
+        Check.reads("\\x01\\x23\\x45\\x67\\x89\\xab\\xcd\\xef\\xAB\\xCD\\xEF",
+            "\u0001\u0023\u0045\u0067\u0089\u00ab\u00cd\u00ef\u00ab\u00cd\u00ef");
         Check.reads("\"\\x4 1\"", "\u0004 1");
         Check.reads("\\101 \\1011 \\7 \\08 \\128", "A", "A1", "\u0007", "\u00008", "\n8");
         Check.reads("\\377\\400\\777\\501", "\u00ff\u0000\u00ffA");
