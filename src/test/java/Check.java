@@ -1,14 +1,24 @@
+import java.util.ArrayList;
+import java.util.Arrays;
+import java.util.List;
+
 /** What the tests share: telling wrong answers, and handing texts in and out, a char for each byte. */
 final class Check {
     private static int wrong = 0;
+    private static String sentence = "";
 
     private Check() {
+    }
+
+    /** The words of the document that the checks from here on hold the class to. */
+    static void sentence(String words) {
+        sentence = "[" + words + "] ";
     }
 
     static void same(String what, Object got, Object due) {
         if (!due.equals(got)) {
             wrong++;
-            System.out.println(what + ": got " + shown(got) + ", due is " + shown(due));
+            System.out.println(sentence + what + ": got " + shown(got) + ", due is " + shown(due));
         }
     }
 
@@ -61,7 +71,7 @@ final class Check {
         return x;
     }
 
-    /** Only for texts so short that the object's 512 calls are enough. */
+    /** Only for texts so short that the object's 512 calls are enough; Scene looks at longer ones. */
     static String listOf(ListWords x) {
         StringBuilder text = new StringBuilder();
         for (int i = 0; x.listAt(i) != ListWords.NONE; i++) {
@@ -85,7 +95,7 @@ final class Check {
         if (count == ListWords.BAD) {
             return ListWords.BAD;
         }
-        java.util.List<String> elements = new java.util.ArrayList<>();
+        List<String> elements = new ArrayList<>();
         for (int k = 0; k < count; k++) {
             int size = x.element(k);
             String element = itemOf(x);
@@ -96,16 +106,24 @@ final class Check {
     }
 
     static void reads(String text, String... due) {
-        same("elements of " + shown(text), elements(text), java.util.Arrays.asList(due));
+        same("elements of " + shown(text), elements(text), Arrays.asList(due));
     }
 
     static void isBad(String text) {
         same("elements of " + shown(text), elements(text), ListWords.BAD);
     }
 
+    static boolean isSpace(int b) {
+        return " \t\n\u000b\f\r".indexOf(b) >= 0;
+    }
+
     static String shown(Object o) {
+        String text = String.valueOf(o);
+        if (text.length() > 80) {
+            return shown(text.substring(0, 60)) + ".. (" + text.length() + " in all)";
+        }
         StringBuilder out = new StringBuilder();
-        for (char c : String.valueOf(o).toCharArray()) {
+        for (char c : text.toCharArray()) {
             out.append(c >= 32 && c < 127 ? String.valueOf(c) : "<" + (int) c + ">");
         }
         return out.toString();

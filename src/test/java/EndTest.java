@@ -1,31 +1,75 @@
 /** Promise 3: end. */
 public final class EndTest {
+    private static final String TAPE = "abcdefghijklmnopqrst";
+
     public static void main(String[] args) {
-        ListWords x = new ListWords();
-        Check.feed(x, "abcdefghijklmnopqrst", 0);
-        Check.same("end(21)", x.end(21), false);
-        Check.same("end(-1)", x.end(-1), false);
-        Check.same("end(lowest)", x.end(Integer.MIN_VALUE), false);
-        Check.same("end(highest)", x.end(Integer.MAX_VALUE), false);
-        Check.same("end(20)", x.end(20), true);
-        Check.same("end(19)", x.end(19), true);
-        Check.same("end(20) when 19 are left", x.end(20), false);
-        Check.same("end(3)", x.end(3), true);
-        Check.same("end(4) when 3 are left", x.end(4), false);
-        Check.same("end(-1) when 3 are left", x.end(-1), false);
-        Check.same("list()", x.list(), 3);
-        Check.same("LIST", Check.listOf(x), "abc");
-        Check.same("end(1) of the empty tape", x.end(1), false);
-        Check.same("end(0) of the empty tape", x.end(0), true);
-
-        Check.feed(x, "abcdefghijklmnopqrst", 0);
-        Check.same("end(0)", x.end(0), true);
-        Check.same("item()", x.item(), 0);
-
-        Check.tape(x, "a".repeat(1024));
-        Check.same("end(1025)", x.end(1025), false);
-        Check.same("end(1024)", x.end(1024), true);
-        Check.same("LIST stays", Check.listOf(x), "abc");
+        firstBytesCount();
+        justAllBytes();
+        noBytes();
+        notSoMany();
+        belowZero();
+        cutBytesAreGone();
         Check.finish();
+    }
+
+    private static Scene end(String tape, int n) {
+        return Scene.with("list", "item", tape).call("end(" + n + ")", x -> x.end(n));
+    }
+
+    private static void firstBytesCount() {
+        Check.sentence("3: Of the tape only the first n bytes count");
+        for (int n = 0; n <= TAPE.length(); n++) {
+            end(TAPE, n).answers(true).leaves("list", "item", TAPE.substring(0, n));
+        }
+        String most = TAPE.repeat(51) + "wxyz";
+        for (int n : new int[] {1, 1003, 1004, 1020, 1023}) {
+            end(most, n).answers(true).leaves("list", "item", most.substring(0, n));
+        }
+    }
+
+    private static void justAllBytes() {
+        Check.sentence("3: false when it has not so many (it just has them)");
+        end("", 0).answers(true).changesNothing();
+        end("a", 1).answers(true).changesNothing();
+        end(TAPE, 20).answers(true).changesNothing();
+        end(TAPE.repeat(51) + "wxyz", 1024).answers(true).changesNothing();
+    }
+
+    private static void noBytes() {
+        Check.sentence("3: false when n is below 0 (it is 0)");
+        end(TAPE, 0).answers(true).leaves("list", "item", "");
+        end("t".repeat(1024), 0).answers(true).leaves("list", "item", "");
+    }
+
+    private static void notSoMany() {
+        Check.sentence("3: false, changing nothing, when it has not so many");
+        for (int n : new int[] {1, 2, 20, 1024, 1025, Integer.MAX_VALUE}) {
+            end("", n).answers(false).changesNothing();
+        }
+        for (int n : new int[] {21, 22, 40, 1024, Integer.MAX_VALUE}) {
+            end(TAPE, n).answers(false).changesNothing();
+        }
+        for (int n : new int[] {1025, 1026, 2048, Integer.MAX_VALUE}) {
+            end("t".repeat(1024), n).answers(false).changesNothing();
+        }
+    }
+
+    private static void belowZero() {
+        Check.sentence("3: false, changing nothing, when n is below 0");
+        for (int n : new int[] {-1, -2, -20, -1024, Integer.MIN_VALUE}) {
+            end("", n).answers(false).changesNothing();
+            end(TAPE, n).answers(false).changesNothing();
+            end("t".repeat(1024), n).answers(false).changesNothing();
+        }
+    }
+
+    private static void cutBytesAreGone() {
+        Check.sentence("3: only the first n bytes count: the others are no bytes of the tape then");
+        Scene.with("", "", TAPE).call("end(19), end(20)", x -> x.end(19) && x.end(20)).answers(false)
+            .leaves("", "", TAPE.substring(0, 19));
+        Scene.with("", "", TAPE).call("end(0), end(1)", x -> x.end(0) && x.end(1)).answers(false)
+            .leaves("", "", "");
+        Scene.with("", "", TAPE).call("end(2), feed", x -> x.end(2) && Check.feed(x, "ABCDEFGHIJKLMNOPQRST", 0))
+            .answers(true).leaves("", "", "abABCDEFGHIJKLMNOPQRST");
     }
 }

@@ -1,73 +1,68 @@
 /** Promise 2: feed. */
 public final class FeedTest {
+    private static final String FED = "ABCDEFGHIJKLMNOPQRST";
+
     public static void main(String[] args) {
-        highestByteFirst();
-        everyByteIsKept();
-        fullTape();
-        tapeOfJustTheMost();
-        appendsBehindTheCut();
+        appendsTwenty();
+        highestFirst();
+        justTheMost();
+        moreThanTheMost();
+        afterARefusal();
         Check.finish();
     }
 
-    private static void highestByteFirst() {
-        ListWords x = new ListWords();
-        Check.same("feed", x.feed(0x01020304, 0x05060708, 0x090a0b0c, 0x0d0e0f10, 0x11121314), true);
-        Check.same("list()", x.list(), 20);
-        for (int i = 0; i < 20; i++) {
-            Check.same("listAt(" + i + ")", x.listAt(i), i + 1);
-        }
+    private static boolean feed(ListWords x) {
+        return x.feed(0x41424344, 0x45464748, 0x494a4b4c, 0x4d4e4f50, 0x51525354);
     }
 
-    private static void everyByteIsKept() {
-        ListWords x = new ListWords();
-        x.feed(0xff80007f, -1, Integer.MIN_VALUE, Integer.MAX_VALUE, 0);
-        x.item();
-        int[] due = {255, 128, 0, 127, 255, 255, 255, 255, 128, 0, 0, 0, 127, 255, 255, 255, 0, 0, 0, 0, -1};
-        for (int i = 0; i < due.length; i++) {
-            Check.same("itemAt(" + i + ")", x.itemAt(i), due[i]);
-        }
+    private static void appendsTwenty() {
+        Check.sentence("2: Appends twenty bytes to the tape");
+        Scene.with("l", "i", "").call("feed", FeedTest::feed).answers(true).leaves("l", "i", FED);
+        Scene.with("l", "i", "t").call("feed", FeedTest::feed).answers(true).leaves("l", "i", "t" + FED);
+        Scene.with("", "", FED).call("feed", FeedTest::feed).answers(true).leaves("", "", FED + FED);
+        Scene.with("", "", "").call("feed of zeros", x -> x.feed(0, 0, 0, 0, 0)).answers(true)
+            .leaves("", "", "\u0000".repeat(20));
     }
 
-    private static void fullTape() {
-        ListWords x = new ListWords();
-        for (int n = 1; n <= 51; n++) {
-            Check.same("feed " + n, x.feed(n, n, n, n, n), true);
-        }
-        Check.same("feed 52", x.feed(0, 0, 0, 0, 0), false);
-        Check.same("feed 53", x.feed(0, 0, 0, 0, 0), false);
-        Check.same("bytes of a tape fed 51 times", x.list(), 1020);
-        Check.same("its last byte", x.listAt(1019), 51);
-        Check.same("feed to the empty tape", x.feed(0, 0, 0, 0, 0), true);
+    private static void highestFirst() {
+        Check.sentence("2: of each number the highest first");
+        Scene.with("", "", "")
+            .call("feed", x -> x.feed(0xff80007f, -1, Integer.MIN_VALUE, Integer.MAX_VALUE, 0x01020304))
+            .answers(true)
+            .leaves("", "", "\u00ff\u0080\u0000\u007f" + "\u00ff\u00ff\u00ff\u00ff"
+                + "\u0080\u0000\u0000\u0000" + "\u007f\u00ff\u00ff\u00ff" + "\u0001\u0002\u0003\u0004");
     }
 
-    private static void tapeOfJustTheMost() {
-        ListWords x = new ListWords();
-        x.feed(0x01020304, 0, 0, 0, 0);
-        x.end(4);
-        for (int n = 1; n <= 51; n++) {
-            Check.same("feed " + n + " behind 4 bytes", x.feed(n, n, n, n, n), true);
-        }
-        Check.same("feed to 1024 bytes", x.feed(0, 0, 0, 0, 0), false);
-        Check.same("bytes", x.list(), 1024);
-        Check.same("byte 3", x.listAt(3), 4);
-        Check.same("byte 1023", x.listAt(1023), 51);
-
-        x.feed(0, 0, 0, 0, 0);
-        x.end(5);
-        for (int n = 1; n <= 50; n++) {
-            x.feed(0, 0, 0, 0, 0);
-        }
-        Check.same("feed to 1005 bytes", x.feed(0, 0, 0, 0, 0), false);
-        Check.same("bytes of the refused", x.list(), 1005);
+    private static void justTheMost() {
+        Check.sentence("2: false when it would have more than 1024 (it would have just so many)");
+        String tape = "t".repeat(1004);
+        Scene.with("l", "i", tape).call("feed", FeedTest::feed).answers(true).leaves("l", "i", tape + FED);
+        tape = "t".repeat(1003);
+        Scene.with("l", "i", tape).call("feed", FeedTest::feed).answers(true).leaves("l", "i", tape + FED);
     }
 
-    private static void appendsBehindTheCut() {
-        ListWords x = new ListWords();
-        x.feed(0x61616161, 0, 0, 0, 0);
-        x.end(2);
-        x.feed(0x62626262, 0, 0, 0, 0);
-        x.end(5);
-        x.list();
-        Check.same("LIST", Check.listOf(x), "aabbb");
+    private static void moreThanTheMost() {
+        Check.sentence("2: false, changing nothing, when it would have more than 1024");
+        for (int size : new int[] {1005, 1006, 1020, 1023, 1024}) {
+            Scene.with("l", "i", "t".repeat(size)).call("feed", FeedTest::feed).answers(false).changesNothing();
+        }
+        String most = "m".repeat(1024);
+        Scene.with(most, most, most).call("feed", FeedTest::feed).answers(false).changesNothing();
+    }
+
+    private static void afterARefusal() {
+        Check.sentence("2: false, changing nothing: what is fed later comes behind the old bytes");
+        String tape = "t".repeat(1024);
+        Scene.with("", "", tape).call("feed, feed", x -> feed(x) || feed(x)).answers(false).changesNothing();
+        Scene.with("", "", tape).call("feed, end(1004), feed", x -> {
+            feed(x);
+            x.end(1004);
+            return feed(x);
+        }).answers(true).leaves("", "", "t".repeat(1004) + FED);
+        Scene.with("", "", tape).call("feed, list(), feed", x -> {
+            feed(x);
+            x.list();
+            return feed(x);
+        }).answers(true).leaves(tape, "", FED);
     }
 }
