@@ -5,6 +5,7 @@ public final class AgainTest {
         noElements();
         justFits();
         tooLong();
+        afterARefusal();
         bad();
         longAndBad();
         Check.finish();
@@ -77,6 +78,17 @@ public final class AgainTest {
             .answers(ListWords.LONG * 11).changesNothing();
         Scene.with("; ".repeat(300), "i", "t").call("again(), count()", x -> x.again() * 1000 + x.count())
             .answers(ListWords.LONG * 1000 + 300).changesNothing();
+    }
+
+    private static void afterARefusal() {
+        Check.sentence("9: LONG (it stays): nothing of the refused call is in what is written later");
+        Scene.with("; ".repeat(300), "i", " a  {b c} ").call("again(), list(), again()",
+            x -> x.again() == ListWords.LONG && x.list() == 10 ? x.again() : 0).answers(7).leaves("a {b c}", "i", "");
+        Scene.with("; ".repeat(300), "i", " ").call("again(), list(), again()",
+            x -> x.again() == ListWords.LONG && x.list() == 1 ? x.again() : -9).answers(0).leaves("", "i", "");
+        Check.sentence("9: BAD: nothing of the refused call is in what is written later");
+        Scene.with(" a  {", "i", " \"b\" ").call("again(), list(), again()",
+            x -> x.again() == ListWords.BAD && x.list() == 5 ? x.again() : 0).answers(1).leaves("b", "i", "");
     }
 
     private static void bad() {
