@@ -4,6 +4,7 @@ public final class TextTest {
         rowOfBytes();
         atMost1024();
         last512thCall();
+        laterCalls();
         Check.finish();
     }
 
@@ -42,5 +43,29 @@ public final class TextTest {
             Check.same("append() as call " + call, x.append(), due <= 1024 ? due : ListWords.LONG);
         }
         Check.same("count() as call 512", x.count(), 341);
+    }
+
+    /** No answer is looked at here: that no call throws, in whatever state, is all that is asked. */
+    private static void laterCalls() {
+        Check.sentence("what later calls answer is free (none throws: LANGUAGE.md, rule 7)");
+        ListWords x = new ListWords();
+        for (int call = 0; call < 5000; call++) {
+            int number = call * 0x2c1b3c6d;
+            x.feed(number, number >>> 3, 0x7b5c207d, 0x22207b7d, number << 5);
+            x.end(call % 7 == 0 ? number : 1100 - call % 1200);
+            x.element(call % 5 == 0 ? number : call % 3);
+            x.append();
+            x.again();
+            x.count();
+            x.listAt(number);
+            x.itemAt(number);
+            if (call % 40 == 0) {
+                x.list();
+            } else if (call % 9 == 0) {
+                x.item();
+            } else if (call % 31 == 0) {
+                x.wrap();
+            }
+        }
     }
 }
